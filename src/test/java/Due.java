@@ -1,0 +1,48 @@
+/** Compares answers with those that are due, and tells at the end whether one was wrong. */
+final class Due {
+    interface Call {
+        Object answer();
+    }
+
+    static final Class<IndexOutOfBoundsException> INDEX = IndexOutOfBoundsException.class;
+    static final Class<IllegalArgumentException> ARGUMENT = IllegalArgumentException.class;
+    static final Class<IllegalStateException> STATE = IllegalStateException.class;
+
+    private int asked = 0;
+    private int wrong = 0;
+
+    static Object answerOf(Call call) {
+        try {
+            return call.answer();
+        } catch (RuntimeException e) {
+            return e.getClass();
+        }
+    }
+
+    void is(Object want, String name, Call call) {
+        Object got = answerOf(call);
+        asked++;
+        if (!want.equals(got)) {
+            wrong++;
+            System.out.println(name + " answered " + got + ", due is " + want);
+        }
+    }
+
+    /** As is(), and the yard must be as it was, too. */
+    void fails(StonecutterYard yard, Object want, String name, Call call) {
+        long before = yard.digest();
+        is(want, name, call);
+        is(before, "digest() after " + name, () -> yard.digest());
+    }
+
+    boolean isAllRight() {
+        return wrong == 0;
+    }
+
+    void end() {
+        System.out.println(asked + " answers, " + wrong + " not as due");
+        if (wrong != 0) {
+            System.exit(1);
+        }
+    }
+}
