@@ -3,7 +3,8 @@ import java.util.Random;
 /** Long runs of calls, each answer compared with that of PlainYard; the seeds are fixed. */
 public final class RandomTest {
     private static final int RUNS = 300;
-    private static final int CALLS = 512;
+    // One call is left for the digest() at the end, as an object is used for at most 512.
+    private static final int CALLS = 511;
     private static final int[] ODD = {-1, 0, 1, 2, 5, 6, 24, 25, 40, 999, 1000, Integer.MAX_VALUE, Integer.MIN_VALUE};
 
     private final Due due;
