@@ -22,15 +22,17 @@ final class Due {
         }
     }
 
-    void is(Object want, String name, Call call) {
+    boolean is(Object want, String name, Call call) {
         Object got = answerOf(call);
+        boolean isRight = want.equals(got);
         asked++;
-        if (!want.equals(got)) {
+        if (!isRight) {
             wrong++;
             if (wrong <= MOST_TOLD) {
                 System.out.println(name + " answered " + got + ", due is " + want);
             }
         }
+        return isRight;
     }
 
     /** As is(), and the yard must be as it was, too. */

@@ -1,4 +1,5 @@
 import java.util.ArrayList;
+import java.util.Arrays;
 import java.util.List;
 
 /**
@@ -117,7 +118,7 @@ public final class GridTest {
             List<int[]> longer = new ArrayList<>();
             for (int[] one : all) {
                 for (int value : values) {
-                    int[] more = java.util.Arrays.copyOf(one, one.length + 1);
+                    int[] more = Arrays.copyOf(one, one.length + 1);
                     more[one.length] = value;
                     longer.add(more);
                 }
@@ -147,6 +148,6 @@ public final class GridTest {
 
     private void compare(StonecutterYard yard, PlainYard plain, String name, int... numbers) {
         Object want = Due.answerOf(() -> Face.ask(plain, name, numbers));
-        due.is(want, name + java.util.Arrays.toString(numbers) + " behind " + scene, () -> Face.ask(yard, name, numbers));
+        due.is(want, name + Arrays.toString(numbers) + " behind " + scene, () -> Face.ask(yard, name, numbers));
     }
 }

@@ -15,6 +15,8 @@ public final class PlanEdgesTest extends Edges {
         planPaysRefused();
         planPaysWhenNothingIs();
         planPaysAsPlan();
+        planPaysByFlaws();
+        planPaysAgain();
         manyRefused();
         manyOfAll();
         manyOfStones();
@@ -73,6 +75,10 @@ public final class PlanEdgesTest extends Edges {
         planned.answers(THERE, "ofSlab", 0, 5);
         Scene both = dearAndLarge.goes(2, "plan", 2);
         both.answers(21 + 21, "many", 4);
+        Scene dearFirst = NEW.with("slab", 9, 9, 0).with("slab", 2, 2, 0)
+                .with("kind", 8, 8, 21).with("kind", 2, 2, 20).with("order", 0, 1).with("order", 1, 1).goes(1, "plan", 1);
+        dearFirst.answers(1, "ofKind", 0, 6);
+        dearFirst.answers(THERE, "ofSlab", 1, 5);
         Scene oneDearer = stones(1, 1).with("kind", 2, 2, 41).with("order", 1, 1).goes(1, "plan", 1);
         oneDearer.answers(1, "ofKind", 1, 6);
         oneDearer.answers(41, "ofKind", 0, 4);
@@ -211,6 +217,38 @@ public final class PlanEdgesTest extends Edges {
         for (int most = 1; most <= 20; most++) {
             int behind = (Integer) scene.and("plan", most).answer("many", 4);
             scene.keeps(behind - before, "planPays", most);
+        }
+    }
+
+    private static void planPaysByFlaws() {
+        about("planPays(): by the FLAWS that there are, and those that are LET");
+        Scene slab = NEW.with("slab", 6, 6, 0).with("kind", 4, 4, 40).with("order", 0, 1);
+        for (int x = 0; x < 6; x++) {
+            for (int y = 0; y < 6; y++) {
+                Scene flawed = slab.with("flaw", 0, x, y);
+                flawed.answers(x < 4 && y < 4 ? 0 : 40, "planPays", 1);
+                flawed.answers(x < 4 && y < 4 ? 0 : 1, "plan", 1);
+                flawed.with("let", 0, 0, 1).answers(40, "planPays", 1);
+            }
+        }
+        Scene six = slab;
+        for (int flaws = 1; flaws <= 6; flaws++) {
+            six = six.with("flaw", 0, 3, 3);
+            for (int let = 0; let <= 3; let++) {
+                six.with("let", 0, 0, let).keeps(flaws <= let ? 40 : 0, "planPays", 20);
+            }
+        }
+    }
+
+    private static void planPaysAgain() {
+        about("planPays(): nothing is changed, so it answers the same again");
+        Scene slab = NEW.with("slab", 9, 9, 0).with("flaw", 0, 0, 0).with("flaw", 0, 5, 1)
+                .with("kind", 4, 4, 40).with("let", 0, 0, 1).with("order", 0, 9).with("kind", 2, 2, 9).with("order", 1, 9);
+        for (int most = 1; most <= 20; most++) {
+            Object pays = slab.answer("planPays", most);
+            slab.and("planPays", most).answers(pays, "planPays", most);
+            slab.and("planPays", 20).and("planPays", 20).answers(pays, "planPays", most);
+            slab.and("wasteBy", 0, 0).and("worthMore", 0, 999).answers(pays, "planPays", most);
         }
     }
 

@@ -1,3 +1,4 @@
+import java.math.BigInteger;
 import java.util.ArrayList;
 import java.util.Arrays;
 import java.util.List;
@@ -67,8 +68,8 @@ final class Scene {
     }
 
     /** For what no single call tells. */
-    static void check(Object want, Object got, String name) {
-        due.is(want, sentence + ": " + name, () -> got);
+    static boolean check(Object want, Object got, String name) {
+        return due.is(want, sentence + ": " + name, () -> got);
     }
 
     /** The run, and this call behind it, whatever it answers. */
@@ -97,13 +98,16 @@ final class Scene {
         return play().ask(name, numbers);
     }
 
-    void answers(Object want, String name, int... numbers) {
-        check(want, answer(name, numbers), nameOf(name, numbers));
+    boolean answers(Object want, String name, int... numbers) {
+        return check(want, answer(name, numbers), nameOf(name, numbers));
     }
 
     /** The call answers so (or throws that), and behind it all is as it was. */
     void keeps(Object want, String name, int... numbers) {
-        answers(want, name, numbers);
+        if (!answers(want, name, numbers)) {
+            // Behind a wrong answer there may be a SLAB that is too large to be looked at.
+            return;
+        }
         List<String> before = look();
         List<String> behind = and(name, numbers).look();
         check(before.size(), behind.size(), "parts behind " + nameOf(name, numbers));
@@ -130,9 +134,9 @@ final class Scene {
 
     /** digest() as the document tells it, computed without a wrap until the end. */
     void digests() {
-        java.math.BigInteger d = java.math.BigInteger.valueOf(58105);
+        BigInteger d = BigInteger.valueOf(58105);
         for (int v : digested()) {
-            d = d.multiply(java.math.BigInteger.valueOf(31)).add(java.math.BigInteger.valueOf(v));
+            d = d.multiply(BigInteger.valueOf(31)).add(BigInteger.valueOf(v));
         }
         keeps(d.longValue(), "digest");
     }

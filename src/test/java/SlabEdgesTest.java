@@ -548,6 +548,12 @@ public final class SlabEdgesTest extends Edges {
             slab.answers(0, "flawsAt", 0, 23, 1);
             slab.answers(0, "flawsAt", 1, 23, 0);
         }
+        Scene inTheMiddle = NEW.with("slab", 24, 24, 0).with("flaw", 0, 12, 9);
+        for (int x = 10; x <= 14; x++) {
+            for (int y = 7; y <= 11; y++) {
+                inTheMiddle.answers(x == 12 && y == 9 ? 1 : 0, "flawsAt", 0, x, y);
+            }
+        }
         about("flawsAt(): a SLAB that is GONE answers too");
         slab.with("toss", 0).keeps(6, "flawsAt", 0, 23, 0);
         slab.with("cut", 0, DOWN, 23 - 1).keeps(6, "flawsAt", 0, 23, 0);

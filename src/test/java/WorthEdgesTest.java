@@ -21,6 +21,7 @@ public final class WorthEdgesTest extends Edges {
         columnRefused();
         worthMoreOfPrices();
         worthMoreOfSlabs();
+        worthMoreByArea();
         worthMoreRefused();
         wasteByNone();
         wasteByAsTaken();
@@ -337,6 +338,19 @@ public final class WorthEdgesTest extends Edges {
         most.keeps(40 * 576 * 998, "worthMore", 0, 999);
     }
 
+    private static void worthMoreByArea() {
+        about("worthMore(): of all SLABS, of the one GRAIN, of the other one, and of both");
+        int[][] sizes = {{1, 1, 0}, {1, 1, 1}, {24, 3, 0}, {3, 24, 0}, {24, 2, 1}, {2, 24, 1}, {24, 24, 0}, {24, 24, 1}};
+        for (int[] one : sizes) {
+            for (int[] other : sizes) {
+                Scene two = NEW.with("kerf", 0).with("kind", 1, 1, 1)
+                        .with("slab", one[0], one[1], one[2]).with("slab", other[0], other[1], other[2]);
+                two.answers((one[0] * one[1] + other[0] * other[1]) * 9, "worthMore", 0, 10);
+                two.with("toss", 0).answers(other[0] * other[1] * 9, "worthMore", 0, 10);
+            }
+        }
+    }
+
     private static void worthMoreRefused() {
         about("worthMore(): throws IllegalArgumentException if price is not 1 to 999");
         Scene one = NEW.with("slab", 4, 4, 0).with("kind", 4, 4, 500);
@@ -365,6 +379,8 @@ public final class WorthEdgesTest extends Edges {
         Scene flawed = NEW.with("slab", 4, 4, 0).with("kind", 4, 4, 9).with("flaw", 0, 3, 3);
         flawed.keeps(NONE, "wasteBy", 0, 0);
         flawed.with("let", 0, 0, 1).keeps(0, "wasteBy", 0, 0);
+        flawed.and("wasteBy", 0, 0).answers(NONE, "wasteBy", 0, 0);
+        flawed.with("let", 0, 0, 1).and("wasteBy", 0, 0).answers(0, "wasteBy", 0, 0);
     }
 
     private static void wasteByAsTaken() {
@@ -438,5 +454,8 @@ public final class WorthEdgesTest extends Edges {
         NEW.with("slab", 12, 9, 1).with("kind", 12, 4, 50).with("let", 0, 2, 3).with("order", 0, 20).digests();
         slabs(NEW.with("kind", 2, 2, 30).with("order", 0, 9), 9).with("plan", 4).digests();
         full().digests();
+        about("digest(): worth() and bestCut() of 12 and 9, with the GRAIN 0");
+        // One more or less of any of the three numbers has another WORTH and another BEST CUT.
+        NEW.with("kerf", 0).with("kind", 1, 1, 1).with("kind", 12, 9, 500).with("let", 1, 1, 0).digests();
     }
 }
