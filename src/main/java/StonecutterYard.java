@@ -786,14 +786,16 @@ public final class StonecutterYard {
             int worth = price;
             int cut = NONE;
             // A cut beyond the middle has the same two parts as one ahead of it, which comes first.
-            for (int place = 1; place <= wide - kerf - place; place++) {
+            int lastDown = (wide - kerf) / 2;
+            int lastAcross = (high - kerf) / 2;
+            for (int place = 1; place <= lastDown; place++) {
                 int both = worthOf(place, high) + worthOf(wide - kerf - place, high);
                 if (both > worth) {
                     worth = both;
                     cut = place;
                 }
             }
-            for (int place = 1; place <= high - kerf - place; place++) {
+            for (int place = 1; place <= lastAcross; place++) {
                 int both = worthOf(wide, place) + worthOf(wide, high - kerf - place);
                 if (both > worth) {
                     worth = both;
